@@ -6,8 +6,8 @@
  * at its end. So a call works on drafts, and takes them over only when no failure stands.
  *
  * A scale, sieve or order is made only of such as are made already, and there are 24 of each at
- * most, so that no more than 72 askings ever stand open at once. The numbers they are made of are
- * tested when they are made, and nothing is ever taken away: they are good whenever they are asked.
+ * most: so no more than 72 askings, some 130 calls, ever stand open at once. The numbers they are
+ * made of are tested when they are made, and nothing is ever taken away: they stay good.
  */
 public final class SieveDesk {
     public static final int BAD = -1, FULL = -2, FAILED = -10;
@@ -355,7 +355,7 @@ public final class SieveDesk {
         listLength = length;
     }
 
-    /** Moves the thing at a place of the draft ahead, as far as the order wants: how often it went. */
+    /** Moves a thing of the draft ahead, as far as the order wants: how often it went. */
     private int moveForward(int order, int from) {
         int mover = draft[from];
         int place = from;

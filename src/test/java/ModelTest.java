@@ -101,6 +101,8 @@ public final class ModelTest {
             "all", "all", "all", "tell", "sift", "sort", "sort", "sum", "group", "group", "tell"};
         private static final String[] SEEING = {"get", "answer", "list", "list", "list", "groups",
             "groups", "count", "count", "count", "count"};
+        /** Sieves that meet many failures, so that some runs come to the limit of those met. */
+        private static final int[][] MEETING = {{9, 0, 0}, {8, 0, 0}, {5, 1, 1}, {5, 2, 2}, {5, 3, 3}};
         private final Random random;
         private final int way;
 
@@ -110,6 +112,9 @@ public final class ModelTest {
         }
 
         Call next(int i, Model m) {
+            if (way == 2 && i < MEETING.length) {
+                return new Call("sieve", MEETING[i][0], MEETING[i][1], MEETING[i][2]);
+            }
             String[] names = i < 60 ? MAKING : random.nextInt(100) < 55 ? SEEING : USING;
             String name = names[random.nextInt(names.length)];
             switch (name) {

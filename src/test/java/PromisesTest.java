@@ -634,7 +634,8 @@ public final class PromisesTest {
         due("BEFORE asks of both", x.sort(before) + 100 * x.count(6), 900);
         due("NOTHING", x.sort(x.order(5, 0, 0)), NONE);
         due("count(6)", x.count(6), 1);
-        due("THEN of NOTHING, where RISING tells it", x.sort(x.order(2, byNumber, x.count(3) - 1)), 0);
+        int thenNone = x.order(2, byNumber, x.count(3) - 1);
+        due("THEN, NOTHING where the first tells 0", x.sort(thenNone), 0);
     }
 
     private static void promise9All() {
@@ -800,6 +801,10 @@ public final class PromisesTest {
         due("group(2, 2)", x.group(2, 2), 1);
         dueGroup(x, 0, 3, 4, 12, 3);
         dueGroup(x, 1, 0, 0, 0, 0);
+        due("group(0, 2): nothing is left of those before", x.group(0, 2), 3);
+        dueGroup(x, 0, (1L << 32) + 7, 1, 3, 3);
+        dueGroup(x, 1, 7, 2, 6, 2);
+        dueGroup(x, 2, -7, 1, 3, 1);
         x.sieve(7, 0, 0);
         x.sift(0);
         due("group of no things", x.group(0, 1), 0);
